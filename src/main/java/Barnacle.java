@@ -707,7 +707,7 @@ public final class Barnacle {
 
         /** From the last NODE there on, so that the parts of each are reckoned before it. */
         int resultOf(Tree tree, int place) {
-            for (int lower = tree.behind(place) - 1; lower >= place; lower--) {
+            for (int lower = place + at(tree.spans, place) - 1; lower >= place; lower--) {
                 int code = at(tree.codes, lower);
                 int value = at(tree.values, lower);
                 int first = lower + 1;

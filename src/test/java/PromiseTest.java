@@ -748,6 +748,37 @@ public final class PromiseTest {
             t.due("waiting()", t.x.waiting(), 0);
         }
         t.due("misses()", t.x.misses(), 0);
+        changedCodes();
+    }
+
+    /** Each code becomes each one of its kin: what is drawn is left by how many there are. */
+    private static void changedCodes() {
+        int[][] kins = {{2, 3, 4, 5, 6, 7}, {8}, {9, 10}, {11, 12}, {13}};
+        int[] places = {9, 0, 2, 1, 5};
+        for (int kin = 0; kin < kins.length; kin++) {
+            for (int old : kins[kin]) {
+                for (int drawn = 0; drawn < 14; drawn++) {
+                    Bench t = new Bench(17);
+                    t.plant("if and < a 1 not = b 2 + a b 7");
+                    t.x.recode(0, places[kin], old, 0);
+                    t.x.setRates(0, 100, 0);
+                    t.x.setChoosing(1, 0);
+                    t.tell(0, 0, places[kin], drawn);
+                    t.x.breed(1);
+                    int due = kins[kin][drawn % kins[kin].length];
+                    t.due("CHANGED from " + old + " by " + drawn, t.x.codeAt(0, places[kin]), due);
+                }
+            }
+        }
+        for (int drawn : new int[] {0, 1, 99, 198, 199, 200, 397, 398}) {
+            Bench t = new Bench(17);
+            t.plant("5");
+            t.x.setRates(0, 100, 0);
+            t.x.setChoosing(1, 0);
+            t.tell(0, 0, 0, drawn);
+            t.x.breed(1);
+            t.due("a CONSTANT CHANGED by " + drawn, t.x.valueAt(0, 0), drawn % 199 - 99);
+        }
     }
 
     private static void hoistedYoung() {
@@ -894,6 +925,8 @@ public final class PromiseTest {
         gives(t, "if = a b 1 2", 4, -4, 0, 2);
         gives(t, "if not = a b 1 2", 4, 4, 0, 2);
         gives(t, "if not = a b 1 2", 4, 5, 0, 1);
+        gives(t, "if not not = a b 1 2", 4, 4, 0, 1);
+        gives(t, "if not not = a b 1 2", 4, 5, 0, 2);
         for (int first = 0; first < 2; first++) {
             for (int second = 0; second < 2; second++) {
                 gives(t, "if and = a 1 = b 1 1 0", first, second, 0, first & second);
@@ -1096,6 +1129,15 @@ public final class PromiseTest {
         t.x.breed(7);
         t.tell(5);
         t.due("digest() after breeding", t.x.digest(), digestOf(t.x));
+        Bench u = new Bench(42);
+        u.plant("if < a b c -4");
+        u.plant("+ a 1");
+        u.x.setRates(100, 0, 0);
+        u.x.setChoosing(1, 1);
+        u.tell(0, 0, 1, 1);
+        u.x.breed(1);
+        u.due("misses()", u.x.misses(), 1);
+        u.due("digest() after a MISS", u.x.digest(), digestOf(u.x));
     }
 
     private static long digestOf(Barnacle x) {
