@@ -3,13 +3,15 @@ import java.util.function.Supplier;
 
 /** Long runs of calls, the same on Barnacle and on the Model; each answer must be the same. */
 public final class ModelTest {
-    private static final int RUNS = 150;
-    private static final int CALLS = 510;
+    private static final int RUNS = 400;
+    /** What comes behind so many calls is not promised. */
+    private static final int CALLS = 512;
 
     private final Random random;
     private final Barnacle x = new Barnacle();
     private final Model m = new Model();
     private final int run;
+    private int calls = 0;
     private int wrong = 0;
 
     private ModelTest(int run) {
@@ -37,6 +39,10 @@ public final class ModelTest {
     }
 
     private void same(String call, Supplier<Object> got, Supplier<Object> want) {
+        if (calls == CALLS) {
+            return;
+        }
+        calls++;
         Object answered = answer(got);
         Object due = answer(want);
         if (!answered.equals(due) && wrong++ == 0) {
@@ -45,7 +51,7 @@ public final class ModelTest {
     }
 
     private int go() {
-        for (int call = 0; call < CALLS && wrong == 0; call += 2) {
+        while (calls < CALLS && wrong == 0) {
             oneCall();
             same("digest()", x::digest, m::digest);
         }
@@ -92,7 +98,7 @@ public final class ModelTest {
         }
     }
 
-    /** Digests stand between the calls, so that a whole TREE is sketched in one go: it counts as one call here. */
+    /** A whole TREE is sketched in one go, without a digest between its NODES. */
     private void sketchSome() {
         int most = random.nextInt(3) == 0 ? 1 : 60;
         for (int step = 0; step < most && !(step > 0 && m.sketched() == 0); step++) {

@@ -3,9 +3,9 @@ import java.util.List;
 
 /** For each promise of the document: ordinary inputs, edges, and wrong inputs. */
 public final class PromiseTest {
-    private static final Class<IndexOutOfBoundsException> NO_PLACE = IndexOutOfBoundsException.class;
-    private static final Class<IllegalArgumentException> BAD = IllegalArgumentException.class;
-    private static final Class<IllegalStateException> NOT_NOW = IllegalStateException.class;
+    private static final Class<? extends RuntimeException> NO_PLACE = Bench.NO_PLACE;
+    private static final Class<? extends RuntimeException> BAD = Bench.BAD;
+    private static final Class<? extends RuntimeException> NOT_NOW = Bench.NOT_NOW;
     private static final int[] FAR = {-1, 16, Integer.MIN_VALUE, Integer.MAX_VALUE};
 
     private PromiseTest() {
@@ -377,6 +377,12 @@ public final class PromiseTest {
         t.due("a value that is not looked at", t.x.recode(0, 9, 2, 5000), 7);
         t.due("valueAt()", t.x.valueAt(0, 9), 0);
         t.due("size()", t.x.size(0), 13);
+        recodingWrong();
+    }
+
+    private static void recodingWrong() {
+        Bench t = new Bench(10);
+        t.plant("if and < a 1 not = b 2 + a b 7");
         wrongPlaces(t, "recode", (tree, place) -> t.x.recode(tree, place, 0, 0));
         wrongPlaces(t, "recode with a wrong code", (tree, place) -> t.x.recode(tree, place, 14, 0));
         for (int code : new int[] {-1, 14, Integer.MIN_VALUE, Integer.MAX_VALUE}) {
@@ -833,35 +839,47 @@ public final class PromiseTest {
 
     // ---- 21 to 27, 32 to 34
 
-    private static void asking() {
-        Bench t = new Bench(21);
+    private static Bench asked(int promise) {
+        Bench t = new Bench(promise);
         t.plant("if and < a 1 not = b 2 + a -9 * c + 7 b");
         t.plant("a");
+        return t;
+    }
+
+    private static void asking() {
+        Bench t = asked(21);
         String nodes = t.read(0);
         t.due("size()", t.x.size(0), 17);
         t.due("size()", t.x.size(1), 1);
         t.due("size() by read", nodes.split(" ").length, 17);
+        t.of(26).due("above the last one", t.x.above(0, 16), 14);
         for (int tree : new int[] {-1, 2, 16, Integer.MIN_VALUE, Integer.MAX_VALUE}) {
-            t.of(21).fails("size(" + tree + ")", NO_PLACE, () -> t.x.size(tree));
-            t.of(22).fails("depth(" + tree + ")", NO_PLACE, () -> t.x.depth(tree));
-            t.of(28).fails("error(" + tree + ")", NO_PLACE, () -> t.x.error(tree));
-            t.of(29).fails("merit(" + tree + ")", NO_PLACE, () -> t.x.merit(tree));
-            t.of(30).fails("hits(" + tree + ")", NO_PLACE, () -> t.x.hits(tree));
-            t.of(31).fails("ranked(" + tree + ")", NO_PLACE, () -> t.x.ranked(tree));
-            t.of(40).fails("bestHoist(" + tree + ")", NO_PLACE, () -> t.x.bestHoist(tree));
-            t.of(27).fails("gives(" + tree + ")", NO_PLACE, () -> t.x.gives(tree, 0, 0, 0));
-            t.of(27).fails("gives(" + tree + ") of wrong inputs", NO_PLACE, () -> t.x.gives(tree, 100, 0, 0));
-            t.of(33).fails("alike(" + tree + ", 0)", NO_PLACE, () -> t.x.alike(tree, 0));
-            t.of(33).fails("alike(0, " + tree + ")", NO_PLACE, () -> t.x.alike(0, tree));
+            askingNoTree(asked(21), tree);
         }
-        wrongPlaces(t.of(23), "codeAt", t.x::codeAt);
-        wrongPlaces(t.of(24), "valueAt", t.x::valueAt);
-        wrongPlaces(t.of(25), "sizeAt", t.x::sizeAt);
-        wrongPlaces(t.of(26), "above", t.x::above);
+        Bench p = asked(23);
+        wrongPlaces(p.of(23), "codeAt", p.x::codeAt);
+        wrongPlaces(p.of(24), "valueAt", p.x::valueAt);
+        Bench q = asked(25);
+        wrongPlaces(q.of(25), "sizeAt", q.x::sizeAt);
+        wrongPlaces(q.of(26), "above", q.x::above);
         depths();
-        rows(t);
+        rows();
         giving();
         counting();
+    }
+
+    private static void askingNoTree(Bench t, int tree) {
+        t.of(21).fails("size(" + tree + ")", NO_PLACE, () -> t.x.size(tree));
+        t.of(22).fails("depth(" + tree + ")", NO_PLACE, () -> t.x.depth(tree));
+        t.of(28).fails("error(" + tree + ")", NO_PLACE, () -> t.x.error(tree));
+        t.of(29).fails("merit(" + tree + ")", NO_PLACE, () -> t.x.merit(tree));
+        t.of(30).fails("hits(" + tree + ")", NO_PLACE, () -> t.x.hits(tree));
+        t.of(31).fails("ranked(" + tree + ")", NO_PLACE, () -> t.x.ranked(tree));
+        t.of(40).fails("bestHoist(" + tree + ")", NO_PLACE, () -> t.x.bestHoist(tree));
+        t.of(27).fails("gives(" + tree + ")", NO_PLACE, () -> t.x.gives(tree, 0, 0, 0));
+        t.of(27).fails("gives(" + tree + ") of wrong inputs", NO_PLACE, () -> t.x.gives(tree, 100, 0, 0));
+        t.of(33).fails("alike(" + tree + ", 0)", NO_PLACE, () -> t.x.alike(tree, 0));
+        t.of(33).fails("alike(0, " + tree + ")", NO_PLACE, () -> t.x.alike(0, tree));
     }
 
     private static void depths() {
@@ -878,7 +896,7 @@ public final class PromiseTest {
         t.due("depth() of a TREE that leans left", t.x.depth(10), 4);
     }
 
-    private static void rows(Bench t) {
+    private static void rows() {
         int[] codes = {8, 11, 9, 1, 0, 13, 10, 1, 0, 2, 1, 0, 4, 1};
         int[] values = {0, 0, 0, 0, 1, 0, 0, 1, 2, 0, 0, -9, 0, 2};
         Bench u = new Bench(23);
@@ -891,7 +909,6 @@ public final class PromiseTest {
             u.of(25).due("sizeAt(" + place + ")", u.x.sizeAt(0, place), sizes[place]);
             u.of(26).due("above(" + place + ")", u.x.above(0, place), above[place]);
         }
-        t.of(26).due("above the last one", t.x.above(0, 16), 14);
     }
 
     private static void gives(Bench t, String nodes, int a, int b, int c, int due) {
