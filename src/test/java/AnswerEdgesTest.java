@@ -43,6 +43,7 @@ public final class AnswerEdgesTest {
     }
 
     private static void breeding(Edges edges) {
+        edges.test("Promise 17", "Breeds generations.", AnswerEdgesTest::oneByOne);
         edges.test("Promise 17", "Returns the ERROR of the best TREE then.", AnswerEdgesTest::errorOfBest);
         edges.test("Promise 35", "Returns how many generations were bred.", AnswerEdgesTest::generations);
         edges.test("Promise 36", "Returns how many MISSES there were.", AnswerEdgesTest::misses);
@@ -300,6 +301,22 @@ public final class AnswerEdgesTest {
 
     // ---- breeding
 
+    /** Several generations at once are the same as one by one. */
+    private static void oneByOne(Bench t) {
+        for (int generations : new int[] {1, 2, 10}) {
+            Bench once = t.fresh();
+            once.fillGrove();
+            Bench steps = t.fresh();
+            steps.fillGrove();
+            int error = 0;
+            for (int generation = 0; generation < generations; generation++) {
+                error = steps.x.breed(1);
+            }
+            t.due("breed(" + generations + ")", once.x.breed(generations), error);
+            t.due("digest() behind it", once.x.digest(), steps.x.digest());
+        }
+    }
+
     private static void errorOfBest(Bench t) {
         t.due("breed() without CASES", t.fresh("a").x.breed(1), 0);
         Bench one = t.fresh("4");
@@ -315,6 +332,20 @@ public final class AnswerEdgesTest {
         t.due("breed() by the same MERIT", merit.x.breed(1), 0);
         merit.x.setWay(1, 2);
         t.due("breed() by the lesser MERIT", merit.x.breed(1), 2);
+        // it need not be the first one, nor of the ELITE
+        Bench second = t.fresh("9", "3");
+        second.x.addCase(0, 0, 0, 3);
+        second.x.setRates(0, 0, 0);
+        second.x.setChoosing(1, 0);
+        second.tell(0, 0, 0, 1);
+        t.due("breed() with the best one as TREE 1", second.x.breed(1), 0);
+        t.due("ranked(0)", second.x.ranked(0), 1);
+        Bench better = t.fresh("9", "5");
+        better.x.addCase(0, 0, 0, 3);
+        better.x.setRates(0, 100, 0);
+        better.tell(0, 0, 0, 0, 102);
+        t.due("breed() to what is better than the ELITE", better.x.breed(1), 0);
+        t.due("ranked(0)", better.x.ranked(0), 1);
         // the best one then, not the one that was the best
         Bench bred = t.fresh("+ a 4");
         bred.x.addCase(5, 0, 0, 9);
@@ -515,6 +546,11 @@ public final class AnswerEdgesTest {
         }
         full.plant("+ a b");
         t.due("meanSize() of 16", full.x.meanSize(), 18.0 / 16.0);
+        full.x.fell(15);
+        t.due("meanSize() of 15 that are left", full.x.meanSize(), 1.0);
+        full.x.fell(0);
+        full.plant("+ a b");
+        t.due("meanSize() with one planted again", full.x.meanSize(), 17.0 / 15.0);
     }
 
     // ---- what would be
@@ -607,15 +643,25 @@ public final class AnswerEdgesTest {
         for (int drawn = 1; drawn <= 2; drawn++) {
             Bench told = t.fresh("- 20 3");
             told.x.addCase(0, 0, 0, 0);
-            told.x.setRates(0, 0, 100);
+            told.x.setRates(50, 0, 50);
             told.x.setChoosing(1, 0);
             told.x.setLuck(drawn == 1 ? 7777 : 1);
-            told.tell(0, 0, drawn);
+            told.tell(60, 0, drawn);
             t.due("errorBred() by " + drawn, told.x.errorBred(1), drawn == 1 ? 20 : 3);
             t.due("waiting()", told.x.waiting(), 3);
             t.due("luck()", told.x.luck(), drawn == 1 ? 7777 : 1);
             told.x.breed(1);
             t.due("what is left", told.read(0), drawn == 1 ? "20" : "3");
+        }
+        // by LUCK alone
+        for (int luck : new int[] {0, 5000, 9999}) {
+            Bench lucky = t.fresh("- 20 3", "+ a b");
+            lucky.x.addCase(0, 0, 0, 0);
+            lucky.x.setRates(50, 0, 50);
+            lucky.x.setLuck(luck);
+            int would = lucky.x.errorBred(3);
+            t.due("luck()", lucky.x.luck(), luck);
+            t.due("errorBred() by a LUCK of " + luck, would, lucky.x.breed(3));
         }
     }
 
@@ -657,6 +703,27 @@ public final class AnswerEdgesTest {
         t.due("digest() by another WAY", t.x.digest(), digestOf(t.x));
         t.x.erase();
         t.due("digest() behind erase()", t.x.digest(), digestOf(t.x));
+        Bench missed = t.fresh(Bench.deep(8));
+        missed.x.setRates(100, 0, 0);
+        missed.x.setChoosing(1, 0);
+        missed.tell(0, 0, 0, 14, 0);
+        missed.x.breed(1);
+        t.due("misses()", missed.x.misses(), 1);
+        t.due("digest() behind a MISS", missed.x.digest(), digestOf(missed.x));
+        // each of them counts, and no two are the same
+        Bench all = t.fresh("a", "b", "a", "+ a c");
+        all.x.addCase(1, 2, 3, 2);
+        all.x.addCase(4, 4, 4, 4);
+        all.x.addCase(0, 0, 0, 7);
+        all.x.setLuck(55);
+        all.tell(1, 2, 3, 4, 5, 6);
+        all.sketch("+ a + b + c +");
+        long d = 58042;
+        for (int number : new int[] {7, 4, 3, 0, 0, 55, 6, 3, 1, 1, 8, 8, 1, 1, 0, 1, 1, 7, 7, 2, 1, 1, 1, 1, 8, 8, 1, 1, 0,
+            3, 2, 13, 13, 0, 2, 0, 1, 0, 1, 2, 1, 0, 2, 3}) {
+            d = d * 31 + number;
+        }
+        t.due("digest() of what is known", all.x.digest(), d);
     }
 
     private static void digestWraps(Bench t) {

@@ -296,8 +296,20 @@ public final class TreeEdgesTest {
                 gives(t, "if and = a 1 = b 1 1 0", first, second, 0, first == 1 && second == 1 ? 1 : 0);
                 gives(t, "if or = a 1 = b 1 1 0", first, second, 0, first == 1 || second == 1 ? 1 : 0);
             }
-            gives(t, "if not = a 1 1 0", first, 0, 0, first == 1 ? 0 : 1);
-            gives(t, "if not not = a 1 1 0", first, 0, 0, first);
+        }
+        // each kind of CONDITION, where it holds and where not, beneath each of the others
+        for (String condition : new String[] {"= a 1", "< 0 a", "not = a 0", "not < a 1", "and = a 1 < 0 a", "or = a 1 < 0 a"}) {
+            for (int holds = 0; holds <= 1; holds++) {
+                gives(t, "if " + condition + " 1 0", holds, 0, 0, holds);
+                gives(t, "if not " + condition + " 1 0", holds, 0, 0, 1 - holds);
+                gives(t, "if not not " + condition + " 1 0", holds, 0, 0, holds);
+                gives(t, "if and " + condition + " = b 0 1 0", holds, 0, 0, holds);
+                gives(t, "if and = b 0 " + condition + " 1 0", holds, 0, 0, holds);
+                gives(t, "if and = b 1 " + condition + " 1 0", holds, 0, 0, 0);
+                gives(t, "if or " + condition + " = b 1 1 0", holds, 0, 0, holds);
+                gives(t, "if or = b 1 " + condition + " 1 0", holds, 0, 0, holds);
+                gives(t, "if or = b 0 " + condition + " 1 0", holds, 0, 0, 1);
+            }
         }
     }
 
