@@ -113,7 +113,7 @@ public final class AnswerEdgesTest {
     }
 
     private static void missing(Bench t) {
-        // seven CHOICES would be too deep: two that are open, with NOT and BOTH beneath them
+        // a CONDITION that is missing counts as one here, though it needs three
         String[] nodes = {"if", "and", "not", "<", "+", "a", "1", "b", "=", "1", "2", "+", "a", "if", "<", "a", "b", "1", "2", "7"};
         int[] missing = {3, 4, 4, 5, 6, 5, 4, 3, 4, 3, 2, 3, 2, 4, 5, 4, 3, 2, 1, 0};
         for (int step = 0; step < nodes.length; step++) {
@@ -225,7 +225,6 @@ public final class AnswerEdgesTest {
 
     private static void less(Bench t) {
         String[] nodes = {"a", "7", "+ a b", "+ a 0", "+ 1 2", Bench.sized(40), Bench.sized(39).replace('a', '1')};
-        // of the one with 40 nothing is the same and nothing is CONSTANT
         int[] less = {0, 0, 0, 2, 2, 0, 38};
         for (int index = 0; index < nodes.length; index++) {
             t.due("simplify() of " + nodes[index], t.fresh(nodes[index]).x.simplify(0), less[index]);
