@@ -1,14 +1,20 @@
+import java.io.IOException;
 import java.lang.reflect.Constructor;
 import java.lang.reflect.Field;
 import java.lang.reflect.Method;
 import java.lang.reflect.Modifier;
+import java.nio.file.Files;
+import java.nio.file.Path;
 import java.util.ArrayList;
 import java.util.Arrays;
 import java.util.List;
 import java.util.TreeSet;
 import java.util.stream.Collectors;
 
-/** The class has just the document's public face, with the exceptions that it names, and nothing else to be seen. */
+/**
+ * The class has just the document's public face, with the exceptions that it names, and nothing else to be seen. The face is
+ * told here once more, and compared with the words of ../shared/DOC.md, the names of what is given included.
+ */
 public final class FaceTest {
     private static final String PLACE = "IndexOutOfBoundsException";
     private static final String BAD = "IllegalArgumentException";
@@ -17,7 +23,7 @@ public final class FaceTest {
     private FaceTest() {
     }
 
-    public static void main(String[] args) {
+    public static void main(String[] args) throws IOException {
         List<String> faults = new ArrayList<>();
         TreeSet<String> due = due();
         TreeSet<String> found = new TreeSet<>();
@@ -43,6 +49,7 @@ public final class FaceTest {
         found.removeAll(due);
         found.forEach(call -> faults.add("is too much: " + call));
         members(faults);
+        words(faults);
         faults.forEach(System.out::println);
         System.out.println("FaceTest: " + (faults.isEmpty() ? "the face is as due" : faults.size() + " faults"));
         if (!faults.isEmpty()) {
@@ -66,6 +73,27 @@ public final class FaceTest {
             if (Modifier.isStatic(field.getModifiers()) && !Modifier.isFinal(field.getModifiers())) {
                 faults.add("is static and not final: " + field);
             }
+        }
+    }
+
+    /** Each line of the face, in its order, stands in the program; and each promise's heading is a line of the face. */
+    private static void words(List<String> faults) throws IOException {
+        String document = Files.readString(Path.of("../shared/DOC.md"));
+        String program = Files.readString(Path.of("src/main/java/Barnacle.java")).replaceAll("\\s+", " ");
+        List<String> face = document.substring(document.indexOf("```java"), document.indexOf("## Terms")).lines()
+                .filter(line -> line.matches(" +public .*;")).map(line -> line.strip().replace(";", "")).toList();
+        int last = -1;
+        for (String line : face) {
+            int here = program.indexOf(" " + line + " {");
+            if (here <= last) {
+                faults.add("is missing, or in another order: " + line);
+            }
+            last = Math.max(last, here);
+        }
+        List<String> headings = document.lines().filter(line -> line.matches("`[^`]+\\)[^`]*`: .*"))
+                .map(line -> "public " + line.substring(1, line.indexOf("`: "))).toList();
+        if (face.size() != 42 || !face.equals(headings)) {
+            faults.add("the document's face is not that of its promises");
         }
     }
 
